@@ -6,7 +6,7 @@ public final class FeedingTest {
     public static void main(String[] args) {
         joining(new FeedModulus());
         ordering(new FeedModulus());
-        orderOfTwelve(new FeedModulus());
+        twelveParts(new FeedModulus());
         riserRows(new FeedModulus());
         sixFifths(new FeedModulus());
         firstGreatEnough(new FeedModulus());
@@ -101,9 +101,18 @@ public final class FeedingTest {
         Check.refused("order(least)", Check.INDEX, () -> x.order(LEAST));
     }
 
-    private static void orderOfTwelve(FeedModulus x) {
+    private static void twelveParts(FeedModulus x) {
         cubes(x, 12, 11, 10, 9, 8, 7, 6, 5, 4, 3, 2, 1);
         order(x, 11, 10, 9, 8, 7, 6, 5, 4, 3, 2, 1, 0);
+        unfed(x, 0, 1, 2, 3, 4, 5, 6, 7, 8, 9, 10, 11);
+        for (int part = 1; part < 12; part++) {
+            join(x, part, part - 1);
+            feeder(x, part, part - 1);
+        }
+        unfed(x, 0);
+        join(x, 11, 0);
+        feeder(x, 11, 0);
+        feeder(x, 0, -1);
         // Nearly the same moduli, which rounded numbers would not tell apart.
         FeedModulus y = new FeedModulus();
         y.box(1000, 1000, 1000);

@@ -98,6 +98,15 @@ public final class MoldingTest {
         Check.due("packed(1, 0)", 20, () -> x.packed(1, 0));
         molding(x, 50, 60);
         pack(x, 50, 60, 0, 0, 0);
+        // The shelves of the box before are gone, however deep they were.
+        molding(x, 50, 60);
+        pack(x, 10, 5, 0, 0, 0);
+        pack(x, 10, 6, 1, 0, 5);
+        pack(x, 10, 7, 2, 0, 11);
+        molding(x, 50, 10);
+        pack(x, 10, 4, 0, 0, 0);
+        pack(x, 10, 6, 1, 0, 4);
+        tooMuch(x, 10, 7);
         FeedModulus y = new FeedModulus();
         Check.due("box(2, 2, 2)", 0, () -> y.box(2, 2, 2));
         Check.due("flowRow(1, 1)", 1, () -> y.flowRow(1, 1));

@@ -134,6 +134,10 @@ public final class PartsTest {
         }
         setFace(x, 0, 2, 2);
         modulus(x, 0, 7, 2);
+        Check.due("cylinder(1, 1000)", 2, () -> x.cylinder(1, 1000));
+        setFace(x, 2, 0, 0);
+        setFace(x, 2, 1, 0);
+        modulus(x, 2, 1000, 1);
         setFace(x, 1, 0, 2);
         modulus(x, 1, 3, 2);
     }
