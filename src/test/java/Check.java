@@ -42,6 +42,13 @@ final class Check {
         }
     }
 
+    static void same(String call, Call.Outcome want, Call.Outcome got) {
+        checks++;
+        if (!got.equals(want)) {
+            tell(call, got.toString(), "due is that it " + want);
+        }
+    }
+
     /** The class must be the very one: the machine's own exceptions are subclasses. */
     private static boolean threwAsDue(String call, Class<?> want, Done done) {
         checks++;
